@@ -187,6 +187,19 @@ public final class ActionTest {
         Check.same("and it was not sprung", x.trap(1, 3), 0);
     }
 
+    private static void onlyStepsSpringTrapsAndPassDoors() {
+        EchoDungeon x = new EchoDungeon();
+        x.placeHero(1, 1, 5, 9);
+        x.setTrap(1, 1);
+        x.addDoor(1, 0, 2, 0, 0);
+        for (int action : new int[] {4, WAIT, 8, 4, LIGHT, PUT_OUT, THROW}) {
+            Check.same("life after the action " + action, x.act(action), 5);
+        }
+        Check.same("the trap is still set", x.trap(0, 2), 2);
+        Check.same("the door is still open", x.door(0, 0), 1);
+        Check.same("nobody passed it", x.door(0, 4), 0);
+    }
+
     private static void noLifeBelowZero() {
         EchoDungeon x = dungeon(2, 1);
         x.setTrap(1, 0);
@@ -448,6 +461,7 @@ public final class ActionTest {
         springs();
         torchesBurn();
         traps();
+        onlyStepsSpringTrapsAndPassDoors();
         noLifeBelowZero();
         stepsAreHeard();
         quietActionsAreNotHeard();

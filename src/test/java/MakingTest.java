@@ -104,6 +104,7 @@ public final class MakingTest {
             Check.same("a new door: door(0, " + what + ")", x.door(0, what), due[what]);
         }
         refused("a second door", x, STATE, () -> x.addDoor(0, 0, 1, 0, 0));
+        refused("a second door in the door 0", x, STATE, () -> x.addDoor(0, 0, 2, 0, 0));
         refused("no cell comes first", x, BOUNDS, () -> x.addDoor(5, 0, 3, 10, 0));
         refused("the range before the state", x, ARGUMENT, () -> x.addDoor(0, 0, 1, 10, 0));
         int[][] wrong = {{1, 1, 0, 0, 0}, {1, 1, 3, 0, 0}, {4, 1, 1, 0, 0}, {1, 3, 2, 0, 0},

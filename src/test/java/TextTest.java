@@ -56,6 +56,11 @@ public final class TextTest {
         Check.fails("emptying is not undoable", STATE, x::undo);
         type(x, ".");
         Check.same("nothing of the old text is left", x.runActions(), 1);
+        x.clearActions();
+        type(x, "2oe");
+        x.clearActions();
+        type(x, "2o");
+        Check.same("behind the end there is nothing", x.runActions(), -12);
     }
 
     private static void faults() {
