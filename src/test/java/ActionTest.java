@@ -1,7 +1,7 @@
 /** Promises 10 and 11: actions, the reasons against them, and what happens in a turn. */
 public final class ActionTest {
-    private static final Class<IllegalArgumentException> ARGUMENT = IllegalArgumentException.class;
-    private static final Class<IllegalStateException> STATE = IllegalStateException.class;
+    private static final Class<IllegalArgumentException> ARGUMENT = Check.ARGUMENT;
+    private static final Class<IllegalStateException> STATE = Check.STATE;
     private static final int WAIT = 12;
     private static final int LIGHT = 13;
     private static final int PUT_OUT = 14;

@@ -1,8 +1,8 @@
 /** Promises 1 to 9: a new object, and the making of a dungeon. */
 public final class MakingTest {
-    private static final Class<IndexOutOfBoundsException> BOUNDS = IndexOutOfBoundsException.class;
-    private static final Class<IllegalArgumentException> ARGUMENT = IllegalArgumentException.class;
-    private static final Class<IllegalStateException> STATE = IllegalStateException.class;
+    private static final Class<IndexOutOfBoundsException> BOUNDS = Check.BOUNDS;
+    private static final Class<IllegalArgumentException> ARGUMENT = Check.ARGUMENT;
+    private static final Class<IllegalStateException> STATE = Check.STATE;
 
     private static void whole(String when, EchoDungeon x, int... due) {
         for (int what = 0; what < due.length; what++) {

@@ -1,7 +1,7 @@
 /** Promises 25 to 27: typing, emptying and running the action text. */
 public final class TextTest {
-    private static final Class<IllegalArgumentException> ARGUMENT = IllegalArgumentException.class;
-    private static final Class<IllegalStateException> STATE = IllegalStateException.class;
+    private static final Class<IllegalArgumentException> ARGUMENT = Check.ARGUMENT;
+    private static final Class<IllegalStateException> STATE = Check.STATE;
     private static final int FINE = -1;
 
     private static void type(EchoDungeon x, String text) {

@@ -1,6 +1,6 @@
 /** Promises 28 and 29: undo and digest. */
 public final class UndoTest {
-    private static final Class<IllegalStateException> STATE = IllegalStateException.class;
+    private static final Class<IllegalStateException> STATE = Check.STATE;
 
     private static void promise28Undo() {
         EchoDungeon x = new EchoDungeon();

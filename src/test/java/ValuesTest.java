@@ -1,7 +1,7 @@
 /** Promises 12 to 18: the values of borders, cells, doors, torches, monsters, traps and the whole. */
 public final class ValuesTest {
-    private static final Class<IndexOutOfBoundsException> BOUNDS = IndexOutOfBoundsException.class;
-    private static final Class<IllegalArgumentException> ARGUMENT = IllegalArgumentException.class;
+    private static final Class<IndexOutOfBoundsException> BOUNDS = Check.BOUNDS;
+    private static final Class<IllegalArgumentException> ARGUMENT = Check.ARGUMENT;
     private static final int[] FAR_OFF = {-1, Integer.MIN_VALUE, Integer.MAX_VALUE};
 
     private static void lit(String when, EchoDungeon x, String... due) {

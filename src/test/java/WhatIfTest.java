@@ -1,7 +1,7 @@
 /** Promises 19 to 24: the questions what would be, which change nothing. */
 public final class WhatIfTest {
-    private static final Class<IndexOutOfBoundsException> BOUNDS = IndexOutOfBoundsException.class;
-    private static final Class<IllegalArgumentException> ARGUMENT = IllegalArgumentException.class;
+    private static final Class<IndexOutOfBoundsException> BOUNDS = Check.BOUNDS;
+    private static final Class<IllegalArgumentException> ARGUMENT = Check.ARGUMENT;
     private static final int[] FAR_OFF = {-1, Integer.MIN_VALUE, Integer.MAX_VALUE};
 
     private static EchoDungeon dungeon(int columns, int rows) {
