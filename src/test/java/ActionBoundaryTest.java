@@ -544,6 +544,26 @@ public final class ActionBoundaryTest {
         }
     }
 
+    private static void promise10MonstersLookAfterTheStep() {
+        for (int action = 0; action < 4; action++) {
+            EchoDungeon x = heroAt(3, 3);
+            x.addTorch(3, 3, 9);
+            x.addMonster(7, 2, 9, 0);
+            x.addMonster(0, 4, 9, 0);
+            x.addMonster(4, 0, 9, 0);
+            x.addMonster(2, 0, 9, 0);
+            x.addMonster(7, 3, 9, 0);
+            x.act(action);
+            int[] sees = {0, 2, 1, 3};
+            for (int n = 0; n < 4; n++) {
+                boolean isIt = sees[action] == n;
+                goal("after " + action, x, n, isIt ? x.whole(6) : -1, isIt ? x.whole(7) : -1);
+            }
+            boolean inRow = action % 2 == 1;
+            goal("in the old row after " + action, x, 4, inRow ? x.whole(6) : -1, inRow ? x.whole(7) : -1);
+        }
+    }
+
     private static void promise10SightIsStrongerThanSound() {
         EchoDungeon x = dungeon(8, 2);
         x.addTorch(0, 0, 9);

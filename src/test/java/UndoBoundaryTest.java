@@ -1,3 +1,7 @@
+import java.math.BigInteger;
+import java.util.ArrayList;
+import java.util.Arrays;
+import java.util.List;
 import java.util.function.Consumer;
 import java.util.function.Supplier;
 
@@ -221,6 +225,21 @@ public final class UndoBoundaryTest {
         Check.same("one state more changes it", x.digest() == before ? 1 : 0, 0);
         x.undo();
         Check.same("and one less, back", x.digest(), before);
+    }
+
+    /** The values of a new object as the document tells them, in whole numbers without an end. */
+    private static void promise29WrapsAround() {
+        List<Integer> values = new ArrayList<>(Arrays.asList(0, 5, 4, 0, 0, 0, 0, 0, 0, 5, 20, 0, 0, 0, 0));
+        for (int cell = 0; cell < 20; cell++) {
+            values.addAll(Arrays.asList(cell % 5 == 4 ? 1 : 0, cell / 5 == 3 ? 1 : 0, 0, 0, -1, 0));
+        }
+        values.addAll(Arrays.asList(2, 0, 0, 2, 3, 3, 3, 3, 3, 3, 3, 3, 0, 0, 6, 0));
+        BigInteger hash = BigInteger.valueOf(43332);
+        for (int value : values) {
+            hash = hash.multiply(BigInteger.valueOf(31)).add(BigInteger.valueOf(value));
+        }
+        Check.same("more than a long holds", hash.bitLength() > 64 ? 1 : 0, 1);
+        Check.same("digest()", new EchoDungeon().digest(), hash.longValue());
     }
 
     private static void promise29DependsOnTheLengthOfTheTextAlone() {

@@ -117,6 +117,31 @@ public final class WhatIfBoundaryTest {
         Check.same("a wall, not a door and four steps", x.soundCost(0, 0, 0, 1), 7);
     }
 
+    /** A maze in which the first way that is found to many cells is far from the cheapest one. */
+    private static void promise19TakesTheCheapestWayOfAMaze() {
+        String[] east = {".#####..", "####.##.", ".#.##.#.", "..#.###.", "##.##.#.", "...####."};
+        String[] south = {"..#.....", "#.......", "#.......", "###.##..", "###.#...", "........"};
+        for (int from = 0; from < 48; from++) {
+            EchoDungeon x = dungeon(8, 6);
+            Model model = new Model();
+            model.begin(8, 6);
+            for (int cell = 0; cell < 48; cell++) {
+                if (east[cell / 8].charAt(cell % 8) == '#') {
+                    x.setWall(cell % 8, cell / 8, 1, true);
+                    model.setWall(cell % 8, cell / 8, 1, true);
+                }
+                if (south[cell / 8].charAt(cell % 8) == '#') {
+                    x.setWall(cell % 8, cell / 8, 2, true);
+                    model.setWall(cell % 8, cell / 8, 2, true);
+                }
+            }
+            for (int to = 0; to < 48; to++) {
+                Check.same("from " + from + " to " + to, x.soundCost(from % 8, from / 8, to % 8, to / 8),
+                    model.soundCost(from % 8, from / 8, to % 8, to / 8));
+            }
+        }
+    }
+
     private static void promise19GoesThroughAllWallsButThoseAround() {
         EchoDungeon x = allWalls();
         Check.same("twelve walls", x.soundCost(0, 0, 7, 5), 84);
